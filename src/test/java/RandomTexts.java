@@ -1,4 +1,5 @@
 import java.util.ArrayList;
+import java.util.Arrays;
 import java.util.List;
 import java.util.Random;
 
@@ -9,6 +10,7 @@ final class RandomTexts {
     private static final String[] PIECES = {"house", "brown", "fine", "both", "leaflet", "seed", "own", "most", "first",
         "as", "wise", "two", "if", "then", "else", "sign", "lead", "a", "b", "abcdefghi", "0", "5", "10", "11", "31",
         "1000", "12345", ";", "=", "+", "-", "*", "/", "<", "(", ")", ".", "A", "\u00e9", "\u0000", ">", "brown 11;"};
+    private static final String[] BIG = {"7", "10", "11", "30", "31", "999", "1000", "9999"};
     private static final String BLANKS = " \t\n\r";
 
     private final Random lots;
@@ -37,9 +39,23 @@ final class RandomTexts {
         }
         if (lot(3) == 0) {
             spoil();
+        } else if (lot(4) == 0) {
+            spoilNumbersAndNames();
         }
         setting();
         return join();
+    }
+
+    /** Faults of number and name alone, which count only where there is no other one. */
+    private void spoilNumbersAndNames() {
+        for (int i = 0; i < tokens.size(); i++) {
+            if (tokens.get(i).matches("[0-9]+") && lot(15) == 0) {
+                tokens.set(i, BIG[lot(BIG.length)]);
+            }
+            if (Arrays.asList(NAMES).contains(tokens.get(i)) && lot(8) == 0) {
+                tokens.set(i, NAMES[lot(NAMES.length)]);
+            }
+        }
     }
 
     private void setting() {
@@ -104,7 +120,7 @@ final class RandomTexts {
 
     private void law() {
         add("=");
-        int ifs = lot(2) == 0 ? 0 : lot(5);
+        int ifs = lot(2) == 0 ? 0 : lot(9) == 0 ? 5 : lot(5);
         for (int i = 0; i < ifs; i++) {
             add("if");
             sum(2);
@@ -139,6 +155,15 @@ final class RandomTexts {
             add(lot(4) == 0 ? "" + lot(10000) : "" + lot(4));
         } else if (kind < 4) {
             add(VARS[lot(VARS.length)]);
+        } else if (lot(12) == 0) {
+            int open = 4 + lot(4);
+            for (int i = 0; i < open; i++) {
+                add("(");
+            }
+            sum(0);
+            for (int i = 0; i < open; i++) {
+                add(")");
+            }
         } else {
             add("(");
             sum(depth - 1);
