@@ -91,6 +91,8 @@ public final class TextTest {
             Check.with("house " + word.substring(0, 1) + "x 5 0 own;");
         }
         Check.with("house blue 5 0 own;");
+        WhichBin x = Check.with("house az 5 0 own; house z 5 0 as az; house zzzzzzzz 5 0 as z; house a 5 0 own;");
+        Check.due("HOUSES", x.count(0), 4);
         fault("house abcdefghi 5 0 own;", 1, 6);
         fault("house a 5 0 as abcdefghi;", 1, 15);
         fault("house A 5 0 own;", 1, 6);

@@ -125,6 +125,14 @@ public final class WouldBeTest {
         Check.due("read", Check.read(x, "house a 6 0 = 0; house b 6 0 = sign;"), 0);
         puts(x, 0, 0, 0, 0);
         puts(x, 1, 0, 1, 0);
+        // the longest law that can be, text after text, with a fault between
+        for (int i = 0; i < 6; i++) {
+            String ones = "+1".repeat(190) + "-190";
+            Check.due("read", Check.read(x, "house a 6 0 = " + i + ones + ";"), 0);
+            puts(x, 0, 0, i > 0 ? 1 : 0, i > 0 ? 1 : 0);
+            Check.due("read", Check.read(x, "house a 6 0 = 1 - " + i + ones + ")"), 1);
+            puts(x, 0, 0, i > 0 ? 1 : 0, i > 0 ? 1 : 0);
+        }
     }
 
     private static void putsByWorlds() {
@@ -191,6 +199,12 @@ public final class WouldBeTest {
         Check.fraction("tells(1)", x.tells(1, false), x.tells(1, true), -2, -2);
         Check.fraction("tells(0)", x.tells(0, false), x.tells(0, true), 0, 1);
         Check.fraction("chance", x.chance(0, false), x.chance(0, true), 0, 1);
+        x = Check.with("house a 8 0 two; house b 8 0 two; house c 8 0 two; house d 8 0 two; house e 8 0 two;"
+                + "house f 8 0 two; brown 3;");
+        Check.fraction("tells(2 2 2 2 2 2)", x.tells(728, false), x.tells(728, true), 3, 10);
+        x.habit(5, 0);
+        Check.fraction("tells(2 2 2 2 2 2)", x.tells(728, false), x.tells(728, true), -2, -2);
+        Check.fraction("tells(2 2 2 2 2 1)", x.tells(485, false), x.tells(485, true), 12, 19);
         // the first place from which on nobody goes by its sign
         x = Check.with("house a 8 0 two; house b 8 0 own; house c 8 0 first; house d 8 6 most; house e 8 0 as a;");
         Check.due("herd", x.herd(row(1, 1, 1, 1)), 2);
