@@ -1076,7 +1076,7 @@ public final class WhichBin {
         private final int[] starts = new int[MOST_HOUSES];
         private final int[] looked = new int[7];
         private final int[] stack = new int[40];
-        private final byte[] bins = new byte[MOST_HOUSES * CASES];
+        final byte[] bins = new byte[MOST_HOUSES * CASES];
         private int size;
 
         void clear() {
@@ -1104,11 +1104,8 @@ public final class WhichBin {
             }
         }
 
-        int bin(int house, int sign, int browns, int blues, int lead) {
-            return bins[caseOf(house, sign, browns, blues, lead)];
-        }
-
-        private static int caseOf(int house, int sign, int browns, int blues, int lead) {
+        /** Where the bin of such a case stands in bins. */
+        static int caseOf(int house, int sign, int browns, int blues, int lead) {
             int seen = browns * (MOST_SEEN + 1) + blues;
             return house * CASES + (seen * 2 + sign) * 3 + lead + 1;
         }
@@ -1512,7 +1509,7 @@ public final class WhichBin {
             int browns = binsOf(BROWN_BIN, seen, seenAt[place]);
             int blues = binsOf(BLUE_BIN, seen, seenAt[place]);
             int lead = ahead % 3 == BROWN_BIN ? 1 : 0;
-            return plan.laws.bin(houseAt[place], sign, browns, blues, place == 0 ? -1 : lead);
+            return plan.laws.bins[Laws.caseOf(houseAt[place], sign, browns, blues, place == 0 ? -1 : lead)];
         }
 
         /** One night by a seed. */

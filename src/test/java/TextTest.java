@@ -87,71 +87,64 @@ public final class TextTest {
         String[] words = {"house", "brown", "fine", "both", "leaflet", "seed", "own", "most", "first", "as", "wise",
             "two", "if", "then", "else", "sign", "browns", "blues", "sees", "sure", "number", "lead"};
         for (String word : words) {
-            fault("house " + word + " 5 0 own;", 1, 6);
+            Check.fault("house " + word + " 5 0 own;", 1, 6);
             Check.with("house " + word.substring(0, 1) + "x 5 0 own;");
         }
         Check.with("house blue 5 0 own;");
         WhichBin x = Check.with("house az 5 0 own; house z 5 0 as az; house zzzzzzzz 5 0 as z; house a 5 0 own;");
         Check.due("HOUSES", x.count(0), 4);
-        fault("house abcdefghi 5 0 own;", 1, 6);
-        fault("house a 5 0 as abcdefghi;", 1, 15);
-        fault("house A 5 0 own;", 1, 6);
-    }
-
-    private static void fault(String text, int number, int place) {
-        WhichBin x = new WhichBin();
-        Check.due("read of " + text, Check.read(x, text), number);
-        Check.due("place of " + text, x.place(), place);
-        Check.due("tape after " + text, x.count(8), 0);
+        Check.fault("house abcdefghi 5 0 own;", 1, 6);
+        Check.fault("house a 5 0 as abcdefghi;", 1, 15);
+        Check.fault("house A 5 0 own;", 1, 6);
     }
 
     private static void syntax() {
-        fault("x", 1, 0);
-        fault(";", 1, 0);
-        fault("  .", 1, 2);
-        fault("own;", 1, 0);
-        fault("house", 1, 5);
-        fault("house  ", 1, 7);
-        fault("house a", 1, 7);
-        fault("house a 5", 1, 9);
-        fault("house a 5 0", 1, 11);
-        fault("house a 5 0 own", 1, 15);
-        fault("house a 5 0 own own;", 1, 16);
-        fault("house a 5 0 sign;", 1, 12);
-        fault("house 5 5 0 own;", 1, 6);
-        fault("house a b 0 own;", 1, 8);
-        fault("house a 5 own;", 1, 10);
-        fault("house a 12345 0 own;", 1, 8);
-        fault("house a -5 0 own;", 1, 8);
-        fault("house a 5 0 as;", 1, 14);
-        fault("house a 5 0 as 5;", 1, 15);
-        fault("house a 5 0 as own;", 1, 15);
-        fault("seed;", 1, 4);
-        fault("seed a;", 1, 5);
-        fault("seed 12345;", 1, 5);
-        fault("seed 1 2;", 1, 7);
-        fault("seed 1;;", 1, 7);
-        fault("seed 1; \u00a0", 1, 8);
+        Check.fault("x", 1, 0);
+        Check.fault(";", 1, 0);
+        Check.fault("  .", 1, 2);
+        Check.fault("own;", 1, 0);
+        Check.fault("house", 1, 5);
+        Check.fault("house  ", 1, 7);
+        Check.fault("house a", 1, 7);
+        Check.fault("house a 5", 1, 9);
+        Check.fault("house a 5 0", 1, 11);
+        Check.fault("house a 5 0 own", 1, 15);
+        Check.fault("house a 5 0 own own;", 1, 16);
+        Check.fault("house a 5 0 sign;", 1, 12);
+        Check.fault("house 5 5 0 own;", 1, 6);
+        Check.fault("house a b 0 own;", 1, 8);
+        Check.fault("house a 5 own;", 1, 10);
+        Check.fault("house a 12345 0 own;", 1, 8);
+        Check.fault("house a -5 0 own;", 1, 8);
+        Check.fault("house a 5 0 as;", 1, 14);
+        Check.fault("house a 5 0 as 5;", 1, 15);
+        Check.fault("house a 5 0 as own;", 1, 15);
+        Check.fault("seed;", 1, 4);
+        Check.fault("seed a;", 1, 5);
+        Check.fault("seed 12345;", 1, 5);
+        Check.fault("seed 1 2;", 1, 7);
+        Check.fault("seed 1;;", 1, 7);
+        Check.fault("seed 1; \u00a0", 1, 8);
         String law = "house a 5 0 = ";
-        fault(law + ";", 1, 14);
-        fault(law + "-1;", 1, 14);
-        fault(law + "1 2;", 1, 16);
-        fault(law + "1 +;", 1, 17);
-        fault(law + "(1;", 1, 16);
-        fault(law + "1);", 1, 15);
-        fault(law + "();", 1, 15);
-        fault(law + "(1)(2);", 1, 17);
-        fault(law + "a;", 1, 14);
-        fault(law + "1 < 2;", 1, 16);
-        fault(law + "10000;", 1, 14);
-        fault(law + "1 * 12345;", 1, 18);
-        fault(law + "if 1 then;", 1, 19);
-        fault(law + "if 1 < 2 else;", 1, 23);
-        fault(law + "if 1 < 2 then 3;", 1, 29);
-        fault(law + "if 1 < 2 then 3 else;", 1, 34);
-        fault(law + "(if 1 < 2 then 3 else 4);", 1, 15);
-        fault(law + "if 1 < 2 then if 3 < 4 then 5 else 6 else 7;", 1, 28);
-        fault(law + "if (1 < 2) then 3 else 4;", 1, 20);
+        Check.fault(law + ";", 1, 14);
+        Check.fault(law + "-1;", 1, 14);
+        Check.fault(law + "1 2;", 1, 16);
+        Check.fault(law + "1 +;", 1, 17);
+        Check.fault(law + "(1;", 1, 16);
+        Check.fault(law + "1);", 1, 15);
+        Check.fault(law + "();", 1, 15);
+        Check.fault(law + "(1)(2);", 1, 17);
+        Check.fault(law + "a;", 1, 14);
+        Check.fault(law + "1 < 2;", 1, 16);
+        Check.fault(law + "10000;", 1, 14);
+        Check.fault(law + "1 * 12345;", 1, 18);
+        Check.fault(law + "if 1 then;", 1, 19);
+        Check.fault(law + "if 1 < 2 else;", 1, 23);
+        Check.fault(law + "if 1 < 2 then 3;", 1, 29);
+        Check.fault(law + "if 1 < 2 then 3 else;", 1, 34);
+        Check.fault(law + "(if 1 < 2 then 3 else 4);", 1, 15);
+        Check.fault(law + "if 1 < 2 then if 3 < 4 then 5 else 6 else 7;", 1, 28);
+        Check.fault(law + "if (1 < 2) then 3 else 4;", 1, 20);
     }
 
     private static void room() {
@@ -160,51 +153,51 @@ public final class TextTest {
             settings.append("seed 1;");
         }
         // 399 tokens: one more is the 400th
-        fault(settings + "seed", 1, 935);
-        fault(settings + "seed 1;", 2, 936);
-        fault(settings + "seed +", 1, 936);
-        fault(settings + "seed 12345", 1, 936);
+        Check.fault(settings + "seed", 1, 935);
+        Check.fault(settings + "seed 1;", 2, 936);
+        Check.fault(settings + "seed +", 1, 936);
+        Check.fault(settings + "seed 12345", 1, 936);
         Check.with(settings.toString());
         String ones = "+1".repeat(196);
         Check.with("house a 1 1 = 1" + ones + ";");
-        fault("house a 1 1 = 11+1" + ones + ";", 2, 15 + 392 + 3);
+        Check.fault("house a 1 1 = 11+1" + ones + ";", 2, 15 + 392 + 3);
         StringBuilder houses = new StringBuilder();
         for (char name = 'a'; name < 'g'; name++) {
             houses.append("house ").append(name).append(" 5 0 own;");
         }
         Check.with(houses.toString());
-        fault(houses + " house h 5 0 own;", 2, 97);
-        fault(houses + " house 5", 2, 97);
+        Check.fault(houses + " house h 5 0 own;", 2, 97);
+        Check.fault(houses + " house 5", 2, 97);
         String ifs = "if 1 < 2 then 3 else ";
         Check.with("house a 5 0 = " + ifs.repeat(4) + "1; house b 5 0 = " + ifs.repeat(4) + "1;");
-        fault("house a 5 0 = " + ifs.repeat(5) + "1;", 2, 14 + 4 * 21);
-        fault("house a 5 0 = (((((((1)))))));", 2, 20);
-        fault("house a 5 0 = 1 + ((((((1)))))) * (2 - ((((((1)))))));", 2, 44);
+        Check.fault("house a 5 0 = " + ifs.repeat(5) + "1;", 2, 14 + 4 * 21);
+        Check.fault("house a 5 0 = (((((((1)))))));", 2, 20);
+        Check.fault("house a 5 0 = 1 + ((((((1)))))) * (2 - ((((((1)))))));", 2, 44);
         Check.with("house a 5 0 = ((((((1)))))) + ((((((1))))));");
     }
 
     private static void laterFaults() {
-        fault("house a 5 0 own;house a 5 0 own;", 3, 22);
-        fault("house a 5 0 as a;", 4, 15);
-        fault("house a 5 0 as b;house b 5 0 own;", 4, 15);
-        fault("house a 11 0 own;", 5, 8);
-        fault("house a 5 7 own;", 5, 10);
-        fault("brown 11;", 5, 6);
-        fault("fine 31;", 5, 5);
-        fault("both 31;", 5, 5);
-        fault("leaflet 1000;", 5, 8);
-        fault("brown 11; brown 5;", 5, 6);
+        Check.fault("house a 5 0 own;house a 5 0 own;", 3, 22);
+        Check.fault("house a 5 0 as a;", 4, 15);
+        Check.fault("house a 5 0 as b;house b 5 0 own;", 4, 15);
+        Check.fault("house a 11 0 own;", 5, 8);
+        Check.fault("house a 5 7 own;", 5, 10);
+        Check.fault("brown 11;", 5, 6);
+        Check.fault("fine 31;", 5, 5);
+        Check.fault("both 31;", 5, 5);
+        Check.fault("leaflet 1000;", 5, 8);
+        Check.fault("brown 11; brown 5;", 5, 6);
     }
 
     private static void whichFaultIsTold() {
-        fault("brown 11; seed", 1, 14);
-        fault("house a 11 0 own; house a 5 0 own;", 5, 8);
-        fault("house a 5 0 own; house a 11 0 own;", 3, 23);
-        fault("house a 5 0 as b; fine 31;", 4, 15);
-        fault("fine 31; house a 5 0 as b;", 5, 5);
-        fault("house a 5 0 = (((((((1; x", 2, 20);
-        fault("house a 5 0 x = (((((((1;", 1, 12);
-        fault("house a 5 0 own; house a 5 0 as x; house b 5 0 = (((((((1))))))); ", 2, 55);
+        Check.fault("brown 11; seed", 1, 14);
+        Check.fault("house a 11 0 own; house a 5 0 own;", 5, 8);
+        Check.fault("house a 5 0 own; house a 11 0 own;", 3, 23);
+        Check.fault("house a 5 0 as b; fine 31;", 4, 15);
+        Check.fault("fine 31; house a 5 0 as b;", 5, 5);
+        Check.fault("house a 5 0 = (((((((1; x", 2, 20);
+        Check.fault("house a 5 0 x = (((((((1;", 1, 12);
+        Check.fault("house a 5 0 own; house a 5 0 as x; house b 5 0 = (((((((1))))))); ", 2, 55);
     }
 
     private static void textInPlaceOfTheOneAhead() {

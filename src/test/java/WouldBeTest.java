@@ -20,71 +20,57 @@ public final class WouldBeTest {
         Check.finish("WouldBeTest");
     }
 
-    private static int row(int... bins) {
-        int row = 0;
-        for (int place = bins.length - 1; place >= 0; place--) {
-            row = 3 * row + bins[place];
-        }
-        return row;
-    }
-
-    /** With a brown and with a blue sign. */
-    private static void puts(WhichBin x, int house, int row, int ifBrown, int ifBlue) {
-        Check.due("puts(" + house + ", true, " + row + ")", x.puts(house, true, row), ifBrown);
-        Check.due("puts(" + house + ", false, " + row + ")", x.puts(house, false, row), ifBlue);
-    }
-
     private static void putsByHabits() {
         WhichBin x = Check.with("house a 8 0 first; house b 8 6 own; house c 5 6 two; house d 8 2 most;"
                 + "house e 8 0 first; house f 8 0 as b;");
-        puts(x, 0, row(0), 1, 0);
-        puts(x, 0, row(2, 1), 1, 0);
-        puts(x, 1, row(0), 1, 0);
-        puts(x, 2, row(0, 0), 2, 2);
-        puts(x, 3, row(0, 1, 1), 1, 1);
-        puts(x, 3, row(1, 0, 0), 0, 0);
-        puts(x, 3, row(1, 0, 1), 1, 0);
-        puts(x, 3, row(1, 0, 2), 0, 0);
-        puts(x, 3, row(0, 2, 1), 1, 1);
-        puts(x, 3, row(1, 2, 2), 1, 0);
-        puts(x, 4, row(1, 0, 0, 0), 1, 1);
-        puts(x, 4, row(0, 1, 1, 1), 0, 0);
-        puts(x, 4, row(2, 1, 1, 1), 1, 0);
-        puts(x, 5, row(0, 1, 0, 0, 0), 1, 1);
-        puts(x, 5, row(1, 0, 1, 1, 1), 0, 0);
-        puts(x, 5, row(1, 2, 1, 1, 1), 1, 0);
-        puts(x, 5, row(0, 1, 0, 0, 0, 2), 1, 1);
+        Check.puts(x, 0, Check.row(0), 1, 0);
+        Check.puts(x, 0, Check.row(2, 1), 1, 0);
+        Check.puts(x, 1, Check.row(0), 1, 0);
+        Check.puts(x, 2, Check.row(0, 0), 2, 2);
+        Check.puts(x, 3, Check.row(0, 1, 1), 1, 1);
+        Check.puts(x, 3, Check.row(1, 0, 0), 0, 0);
+        Check.puts(x, 3, Check.row(1, 0, 1), 1, 0);
+        Check.puts(x, 3, Check.row(1, 0, 2), 0, 0);
+        Check.puts(x, 3, Check.row(0, 2, 1), 1, 1);
+        Check.puts(x, 3, Check.row(1, 2, 2), 1, 0);
+        Check.puts(x, 4, Check.row(1, 0, 0, 0), 1, 1);
+        Check.puts(x, 4, Check.row(0, 1, 1, 1), 0, 0);
+        Check.puts(x, 4, Check.row(2, 1, 1, 1), 1, 0);
+        Check.puts(x, 5, Check.row(0, 1, 0, 0, 0), 1, 1);
+        Check.puts(x, 5, Check.row(1, 0, 1, 1, 1), 0, 0);
+        Check.puts(x, 5, Check.row(1, 2, 1, 1, 1), 1, 0);
+        Check.puts(x, 5, Check.row(0, 1, 0, 0, 0, 2), 1, 1);
         x.swap(1, 5);
-        puts(x, 5, row(0, 1, 0, 0, 0), 1, 0);
-        puts(x, 1, row(0, 0, 0, 0, 0), 1, 0);
+        Check.puts(x, 5, Check.row(0, 1, 0, 0, 0), 1, 0);
+        Check.puts(x, 1, Check.row(0, 0, 0, 0, 0), 1, 0);
         x.leaflet(3, true);
-        puts(x, 3, row(0, 1, 1), 1, 0);
+        Check.puts(x, 3, Check.row(0, 1, 1), 1, 0);
         x.leaflet(3, false);
         x.habit(3, 2);
-        puts(x, 3, row(0, 1, 1), 0, 0);
+        Check.puts(x, 3, Check.row(0, 1, 1), 0, 0);
     }
 
     private static void law(String law, int row, int ifBrown, int ifBlue) {
         WhichBin x = Check.with("house a 6 0 own; house b 6 0 own; house c 6 0 own; house d 7 2 = " + law + ";");
-        puts(x, 3, row, ifBrown, ifBlue);
+        Check.puts(x, 3, row, ifBrown, ifBlue);
     }
 
     private static void putsByLaw() {
         law("sign", 0, 1, 0);
         law("1 - sign", 0, 0, 1);
-        law("browns - 1", row(1, 1, 0), 0, 0);
-        law("browns - 1", row(0, 1, 1), 1, 1);
-        law("blues - 1", row(1, 0, 0), 1, 1);
-        law("browns + blues - 1", row(1, 2, 0), 0, 0);
+        law("browns - 1", Check.row(1, 1, 0), 0, 0);
+        law("browns - 1", Check.row(0, 1, 1), 1, 1);
+        law("blues - 1", Check.row(1, 0, 0), 1, 1);
+        law("browns + blues - 1", Check.row(1, 2, 0), 0, 0);
         law("sees - 1", 0, 1, 1);
         law("sees - 2", 0, 0, 0);
         law("sure - 6", 0, 1, 1);
         law("sure - 7", 0, 0, 0);
         law("number - 2", 0, 1, 1);
         law("number - 3", 0, 0, 0);
-        law("lead", row(1, 0, 0), 1, 1);
-        law("lead", row(2, 1, 1), 0, 0);
-        law("lead + 1", row(2, 1, 1), 1, 1);
+        law("lead", Check.row(1, 0, 0), 1, 1);
+        law("lead", Check.row(2, 1, 1), 0, 0);
+        law("lead + 1", Check.row(2, 1, 1), 1, 1);
         law("2 + 3 * 4 - 13", 0, 1, 1);
         law("2 + 3 * 4 - 14", 0, 0, 0);
         law("10 - 4 - 5", 0, 1, 1);
@@ -112,60 +98,60 @@ public final class WouldBeTest {
         law("if 1 < 2 then 1 else if 1 / 0 < 1 then 1 else 1", 0, 1, 1);
         law("if 2 < 1 then 1 else if 1 < 1 / 0 then 1 else 1", 0, 0, 0);
         WhichBin x = Check.with("house a 6 0 = 0 - lead; house b 6 0 = lead;");
-        puts(x, 0, 0, 1, 1);
-        puts(x, 1, 1, 1, 1);
+        Check.puts(x, 0, 0, 1, 1);
+        Check.puts(x, 1, 1, 1, 1);
         x.swap(0, 1);
-        puts(x, 0, 1, 0, 0);
-        puts(x, 1, 1, 0, 0);
+        Check.puts(x, 0, 1, 0, 0);
+        Check.puts(x, 1, 1, 0, 0);
         // houses have laws of their own, and lose them for another text's
         x = Check.with("house a 6 0 = 1; house b 6 0 = 0; house c 6 0 = 1;");
-        puts(x, 0, 0, 1, 1);
-        puts(x, 1, 0, 0, 0);
-        puts(x, 2, 0, 1, 1);
+        Check.puts(x, 0, 0, 1, 1);
+        Check.puts(x, 1, 0, 0, 0);
+        Check.puts(x, 2, 0, 1, 1);
         Check.due("read", Check.read(x, "house a 6 0 = 0; house b 6 0 = sign;"), 0);
-        puts(x, 0, 0, 0, 0);
-        puts(x, 1, 0, 1, 0);
+        Check.puts(x, 0, 0, 0, 0);
+        Check.puts(x, 1, 0, 1, 0);
         // the longest law that can be, text after text, with a fault between
         for (int i = 0; i < 6; i++) {
             String ones = "+1".repeat(190) + "-190";
             Check.due("read", Check.read(x, "house a 6 0 = " + i + ones + ";"), 0);
-            puts(x, 0, 0, i > 0 ? 1 : 0, i > 0 ? 1 : 0);
+            Check.puts(x, 0, 0, i > 0 ? 1 : 0, i > 0 ? 1 : 0);
             Check.due("read", Check.read(x, "house a 6 0 = 1 - " + i + ones + ")"), 1);
-            puts(x, 0, 0, i > 0 ? 1 : 0, i > 0 ? 1 : 0);
+            Check.puts(x, 0, 0, i > 0 ? 1 : 0, i > 0 ? 1 : 0);
         }
     }
 
     private static void putsByWorlds() {
         WhichBin x = Check.with("house a 7 0 own; house b 7 6 wise; house c 7 6 wise; house d 7 1 wise;");
-        puts(x, 0, 0, 1, 0);
-        puts(x, 1, row(1), 1, 0);
+        Check.puts(x, 0, 0, 1, 0);
+        Check.puts(x, 1, Check.row(1), 1, 0);
         // two bins alike tell of a and, half, of b; a third sign cannot stand against them
-        puts(x, 2, row(1, 1), 1, 1);
-        puts(x, 2, row(0, 0), 0, 0);
-        puts(x, 2, row(0, 1), 1, 0);
-        puts(x, 3, row(0, 0, 1), 1, 1);
+        Check.puts(x, 2, Check.row(1, 1), 1, 1);
+        Check.puts(x, 2, Check.row(0, 0), 0, 0);
+        Check.puts(x, 2, Check.row(0, 1), 1, 0);
+        Check.puts(x, 3, Check.row(0, 0, 1), 1, 1);
         // what is likely in no world: as its sign
-        puts(x, 2, row(2, 1), 1, 0);
+        Check.puts(x, 2, Check.row(2, 1), 1, 0);
         x = Check.with("house a 9 0 own; house b 6 6 wise; brown 9;");
-        puts(x, 0, 0, 1, 0);
-        puts(x, 1, row(1), 1, 1);
-        puts(x, 1, row(0), 1, 0);
+        Check.puts(x, 0, 0, 1, 0);
+        Check.puts(x, 1, Check.row(1), 1, 1);
+        Check.puts(x, 1, Check.row(0), 1, 0);
         x = Check.with("house a 6 0 wise; brown 9;");
-        puts(x, 0, 0, 1, 1);
+        Check.puts(x, 0, 0, 1, 1);
         x.leaflet(0, true);
-        puts(x, 0, 0, 1, 0);
+        Check.puts(x, 0, 0, 1, 0);
         x = Check.with("house a 7 0 two; house b 6 6 wise; house c 5 6 wise;");
-        puts(x, 1, row(2), 1, 0);
-        puts(x, 2, row(2, 1), 1, 1);
-        puts(x, 2, row(1, 1), 1, 0);
+        Check.puts(x, 1, Check.row(2), 1, 0);
+        Check.puts(x, 2, Check.row(2, 1), 1, 1);
+        Check.puts(x, 2, Check.row(1, 1), 1, 0);
         // a leaflet of one ahead is known
         x = Check.with("house a 6 0 own; house b 8 6 wise;");
-        puts(x, 1, row(1), 1, 0);
+        Check.puts(x, 1, Check.row(1), 1, 0);
         x.leaflet(0, true);
-        puts(x, 1, row(1), 1, 1);
+        Check.puts(x, 1, Check.row(1), 1, 1);
         x.leaflet(0, false);
         x.habit(0, 2);
-        puts(x, 1, row(1), 1, 0);
+        Check.puts(x, 1, Check.row(1), 1, 0);
     }
 
     private static void followed() {
@@ -207,15 +193,15 @@ public final class WouldBeTest {
         Check.fraction("tells(2 2 2 2 2 1)", x.tells(485, false), x.tells(485, true), 12, 19);
         // the first place from which on nobody goes by its sign
         x = Check.with("house a 8 0 two; house b 8 0 own; house c 8 0 first; house d 8 6 most; house e 8 0 as a;");
-        Check.due("herd", x.herd(row(1, 1, 1, 1)), 2);
-        Check.due("herd", x.herd(row(2, 1, 1, 1)), -2);
-        Check.due("herd", x.herd(row(1, 0, 2, 0)), 4);
-        Check.due("herd", x.herd(row(1, 0, 0, 0)), 2);
-        Check.due("herd", x.herd(row(1, 0, 1, 0)), 2);
-        Check.due("herd", x.herd(row(1, 0, 2, 2)), 4);
+        Check.due("herd", x.herd(Check.row(1, 1, 1, 1)), 2);
+        Check.due("herd", x.herd(Check.row(2, 1, 1, 1)), -2);
+        Check.due("herd", x.herd(Check.row(1, 0, 2, 0)), 4);
+        Check.due("herd", x.herd(Check.row(1, 0, 0, 0)), 2);
+        Check.due("herd", x.herd(Check.row(1, 0, 1, 0)), 2);
+        Check.due("herd", x.herd(Check.row(1, 0, 2, 2)), 4);
         x.habit(1, 5);
-        Check.due("herd", x.herd(row(1, 1, 1, 1)), 0);
-        Check.due("herd", x.herd(row(2, 1, 1, 1)), -2);
+        Check.due("herd", x.herd(Check.row(1, 1, 1, 1)), 0);
+        Check.due("herd", x.herd(Check.row(2, 1, 1, 1)), -2);
     }
 
     private static void prices() {
@@ -339,21 +325,21 @@ public final class WouldBeTest {
     private static void fence() {
         WhichBin x = rowOfBins(1, 0, 1);
         Check.due("fence(0)", x.fence(0), 1);
-        Check.due("fence(1)", x.fence(1), row(1, 1, 1));
+        Check.due("fence(1)", x.fence(1), Check.row(1, 1, 1));
         Check.due("fence(2)", x.fence(2), NONE);
         Check.due("bins stay", x.house(1, 4), 0);
         x.swap(0, 1);
         Check.due("fence(0) by the places now", x.fence(0), 0);
-        Check.due("fence(1) by the places now", x.fence(1), row(0, 1, 1));
+        Check.due("fence(1) by the places now", x.fence(1), Check.row(0, 1, 1));
         x = rowOfBins(1, 0, 1, 0, 1, 0);
         Check.due("fence(0)", x.fence(0), 2);
-        Check.due("fence(1)", x.fence(1), row(1, 1, 1, 0, 0, 0));
+        Check.due("fence(1)", x.fence(1), Check.row(1, 1, 1, 0, 0, 0));
         x = rowOfBins(0, 2, 0, 2, 1, 2);
         Check.due("fence(0)", x.fence(0), 1);
-        Check.due("fence(1)", x.fence(1), row(0, 0, 0, 2, 1, 2));
+        Check.due("fence(1)", x.fence(1), Check.row(0, 0, 0, 2, 1, 2));
         x = rowOfBins(0, 1);
         Check.due("fence(0)", x.fence(0), 0);
-        Check.due("fence(1)", x.fence(1), row(0, 1));
+        Check.due("fence(1)", x.fence(1), Check.row(0, 1));
     }
 
     private static void year() {
