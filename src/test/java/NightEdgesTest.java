@@ -34,6 +34,7 @@ public final class NightEdgesTest {
         wrongAndPaid();
         lots();
         nightsFarOn();
+        byPlaces();
         houseWhat();
         houseNoNightYet();
         nightWhat();
@@ -259,6 +260,9 @@ public final class NightEdgesTest {
         law("lead", Check.row(0, 1, 1), 0, 0);
         law("lead + 1", Check.row(2, 1, 1), 1, 1);
         law("lead", Check.row(2, 1, 1), 0, 0);
+        for (int row = 0; row < 27; row++) {
+            law("lead", row, row % 3 == 1 ? 1 : 0, row % 3 == 1 ? 1 : 0);
+        }
         WhichBin x = Check.with("house a 5 0 = lead + 1;house b 5 0 = 0 - lead;house c 5 0 = 2 + lead;");
         Check.puts(x, 0, Check.row(1, 1, 1), 0, 0);
         Check.puts(x, 1, Check.row(0), 0, 0);
@@ -512,6 +516,46 @@ public final class NightEdgesTest {
             Check.due("night 25001", x.nights(1), 25001);
             Check.due("its colour, BROWN " + level, x.night(0), 4 < level ? 1 : 0);
         }
+    }
+
+    private static void byPlaces() {
+        Check.sentence("HOUSE by HOUSE, by PLACES, has a sign, and puts out a bin");
+        WhichBin x = Check.with("house a 6 0 own;house b 6 1 most;house c 5 6 two;house d 6 2 first;house e 6 6 wise;"
+                + "house f 6 3 = browns * 2 - blues;seed 77;fine 9;both 4;");
+        int coins = 0;
+        for (int night = 0; night < 40; night++) {
+            x.swap(night % 6, (night * night + 1) % 5);
+            x.nights(1);
+            int row = 0;
+            int paid = 0;
+            int wrongs = 0;
+            for (int place = 0; place < 6; place++) {
+                int house = 0;
+                while (x.house(house, 0) != place) {
+                    house++;
+                }
+                int bin = x.puts(house, x.house(house, 5) == 1, row);
+                Check.due("bin of " + house + " in night " + night, x.house(house, 4), bin);
+                row += bin * (int) Math.pow(3, place);
+                paid += bin == 2 ? 4 : bin != x.night(0) ? 9 : 0;
+                wrongs += bin != 2 && bin != x.night(0) ? 1 : 0;
+            }
+            coins += paid;
+            Check.due("WRONG", x.night(1), wrongs);
+            Check.due("paid", x.night(2), paid);
+            Check.due("COINS", x.count(2), coins);
+            if (night % 10 == 9) {
+                x = again(x, night);
+                coins = 0;
+            }
+        }
+    }
+
+    /** A new object, since one is for 512 calls; its SEED is another one. */
+    private static WhichBin again(WhichBin old, int seed) {
+        Check.due("WRONG so far", old.count(4) > 0, true);
+        return Check.with("house a 6 0 own;house b 6 1 most;house c 5 6 two;house d 6 2 first;house e 6 6 wise;"
+                + "house f 6 3 = browns * 2 - blues;fine 9;both 4;seed " + seed + ";");
     }
 
     private static void houseWhat() {
@@ -789,12 +833,42 @@ public final class NightEdgesTest {
         Check.due("TOLD", x.count(10), 1);
         Check.due("SLOTS", x.count(11), 1);
         Check.due("tape", x.count(8), 7);
+        lastNightsUndone();
         // a LEAFLET taken back is there again, and costs nothing then
         x.leaflet(2, true);
         x.leaflet(2, false);
         x.undo();
         Check.due("LEAFLETS", x.count(3), 4);
         Check.due("COINS", x.count(2), 9);
+    }
+
+    private static int[] lastNight(WhichBin x) {
+        return new int[] {x.count(1), x.count(2), x.count(4), x.night(0), x.night(1), x.night(2), x.house(0, 4), x.house(0, 5),
+            x.house(0, 6), x.house(1, 4), x.house(1, 5), x.house(1, 6)};
+    }
+
+    private static void lastNightsUndone() {
+        WhichBin x = Check.with("house a 6 0 own;house b 4 0 own;seed 3;");
+        int[][] ahead = new int[20][];
+        for (int i = 0; i < 20; i++) {
+            ahead[i] = lastNight(x);
+            if (i == 10) {
+                x.hold(0);
+            }
+            x.nights(1);
+        }
+        for (int i = 19; i >= 5; i--) {
+            x.undo();
+            int[] now = lastNight(x);
+            for (int k = 0; k < now.length; k++) {
+                Check.due("thing " + k + " of night " + i + ", undone", now[k], ahead[i][k]);
+            }
+        }
+        x.restore(0);
+        int[] now = lastNight(x);
+        for (int k = 0; k < now.length; k++) {
+            Check.due("thing " + k + " of night 10, held", now[k], ahead[10][k]);
+        }
     }
 
     private static void nothingToUndo() {

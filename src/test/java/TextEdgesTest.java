@@ -391,6 +391,7 @@ public final class TextEdgesTest {
         Check.sentence("BROWN (5), FINE (10), BOTH (5), LEAFLET (3), SEED (0)");
         String street = "house a 5 0 own;house b 6 0 own;house c 7 0 two;";
         WhichBin x = Check.with("brown 1;fine 2;both 3;leaflet 4;seed 5;");
+        Check.due("read", Check.read(x, "brown 6;fine 7;both 8;leaflet 9;seed 10;"), 0);
         Check.due("read", Check.read(x, street), 0);
         Check.due("BROWN", x.count(5), 5);
         Check.due("FINE", x.count(6), 10);
@@ -697,6 +698,8 @@ public final class TextEdgesTest {
         String text = "house a 6 0 own;house b 7 2 most;house c 8 3 = browns - 1;house d 5 6 wise;seed 44;leaflet 9;";
         WhichBin x = Check.with(text);
         long before = all(x);
+        x.nights(40);
+        Check.due("some are WRONG", x.count(4) > 0 && x.house(0, 6) > 0 && x.house(1, 6) > 0, true);
         for (int slot = 0; slot < 3; slot++) {
             x.leaflet(slot, true);
             x.nights(9);

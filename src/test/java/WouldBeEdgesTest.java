@@ -830,26 +830,75 @@ public final class WouldBeEdgesTest {
             before[what] = x.count(what);
         }
         int bin = x.house(1, 4);
-        for (int round = 0; round < 2; round++) {
-            x.puts(1, true, 0);
-            x.whom(1);
-            x.fewest(0);
-            x.bestSwap();
-            x.bestHour();
-            x.rests(NONE);
-            x.better();
-            x.year(50, 10);
-            x.fence(1);
-            x.hour(2, false);
-            x.worth(1, false);
-            mean(x, 7, 10);
+        for (int kind = 0; kind < 16; kind++) {
+            wouldBe(x, kind);
+            Check.sentenceAlso("after kind " + kind);
             chance(x, 1, 3, 10);
+            wouldBe(x, kind);
+            tells(x, Check.row(1, 0, 1), 1, 1);
+            wouldBe(x, kind);
+            Check.puts(x, 1, 1, 1, 0);
+            wouldBe(x, kind);
+            mean(x, 7, 10);
             for (int what = 0; what <= 12; what++) {
                 Check.due("count(" + what + ")", x.count(what), before[what]);
             }
             Check.due("its bin", x.house(1, 4), bin);
             Check.due("its PLACE", x.house(1, 0), 1);
             Check.due("its HABIT", x.house(1, 2), 4);
+        }
+    }
+
+    private static void wouldBe(WhichBin x, int kind) {
+        switch (kind) {
+            case 0:
+                x.whom(1);
+                break;
+            case 1:
+                x.fewest(0);
+                break;
+            case 2:
+                x.bestSwap();
+                break;
+            case 3:
+                x.bestHour();
+                break;
+            case 4:
+                x.rests(NONE);
+                break;
+            case 5:
+                x.better();
+                break;
+            case 6:
+                x.year(50, 10);
+                break;
+            case 7:
+                x.fence(1);
+                break;
+            case 8:
+                x.hour(2, false);
+                break;
+            case 9:
+                x.worth(1, false);
+                break;
+            case 10:
+                x.worth(0, true);
+                break;
+            case 11:
+                x.street(1, true);
+                break;
+            case 12:
+                x.herd(0);
+                break;
+            case 13:
+                x.two();
+                break;
+            case 14:
+                x.pays(true);
+                break;
+            default:
+                x.puts(2, false, 4);
+                break;
         }
     }
 
