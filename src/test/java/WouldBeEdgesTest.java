@@ -771,6 +771,17 @@ public final class WouldBeEdgesTest {
         x = Check.with(owns(8) + "seed 9999;");
         Check.due("year(1, 1)", x.year(1, 1), 1);
         Check.due("year(1, 2)", x.year(1, 2), 1);
+        // by another program; SEEDS go on behind 9999, the last that can be told
+        int[] firstNights = {2, 4, 6, 7, 7, 9, 10, 11, 12, 13};
+        int[] nextNights = {1, 3, 5, 7, 10, 12, 14, 14, 15, 16};
+        x = Check.with(owns(5) + "seed 9999;");
+        for (int s = 1; s <= 10; s++) {
+            Check.due("year(3, " + s + ")", x.year(3, s), firstNights[s - 1]);
+        }
+        x.nights(3);
+        for (int s = 1; s <= 10; s++) {
+            Check.due("year(3, " + s + ") then", x.year(3, s), nextNights[s - 1]);
+        }
         x = Check.with(owns(0, 0, 0, 0, 0, 0));
         Check.due("year(50, 10)", x.year(50, 10), 3000);
         Check.due("year(1, 1)", x.year(1, 1), 6);
