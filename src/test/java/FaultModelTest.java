@@ -19,7 +19,7 @@ public final class FaultModelTest {
             Check.due("read of " + text, x.read(), fault);
             Check.due("place of " + text, x.place(), m.place());
             counts[fault]++;
-            if (i % 400 == 399) {
+            if (i % 4 == 3) {
                 x = new WhichBin();
             }
         }

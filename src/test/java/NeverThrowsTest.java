@@ -10,6 +10,7 @@ public final class NeverThrowsTest {
     private static final int[] WILD = {Integer.MIN_VALUE, Integer.MIN_VALUE + 1, -100, -3, -2, -1, 0, 1, 2, 3, 4, 5, 6, 7,
         8, 9, 12, 13, 20, 21, 40, 50, 51, 60, 61, 364, 728, 729, 2000, 1 << 30, Integer.MAX_VALUE - 1,
         Integer.MAX_VALUE};
+    private static final int MOST_CALLS = 512;
 
     public static void main(String[] args) throws ReflectiveOperationException {
         List<Method> methods = new ArrayList<>();
@@ -21,20 +22,31 @@ public final class NeverThrowsTest {
         methods.sort(Comparator.comparing(Method::getName));
         RandomTexts texts = new RandomTexts(9);
         Random lots = new Random(9);
-        int calls = 0;
-        for (int run = 0; run < 60; run++) {
+        for (int run = 0; run < 80; run++) {
             WhichBin x = new WhichBin();
-            for (int i = 0; i < 500; i++) {
+            int left = MOST_CALLS;
+            for (int i = 0; left > 0; i++) {
                 if (run > 2 && i % 100 == 50) {
-                    Check.read(x, texts.next());
+                    left = readIfItMay(x, texts.next(), left);
+                } else {
+                    Method method = methods.get(lots.nextInt(methods.size()));
+                    method.invoke(x, arguments(method, lots));
+                    left--;
                 }
-                Method method = methods.get(lots.nextInt(methods.size()));
-                method.invoke(x, arguments(method, lots));
-                calls++;
             }
         }
-        Check.due("calls", calls, 30000);
+        Check.due("methods", methods.size(), 35);
         Check.finish("NeverThrowsTest");
+    }
+
+    /** How many calls are left then; a text for which they do not reach is left out. */
+    private static int readIfItMay(WhichBin x, String text, int left) {
+        int calls = (text.length() + 19) / 20 + 2;
+        if (calls > left) {
+            return left;
+        }
+        Check.read(x, text);
+        return left - calls;
     }
 
     private static Object[] arguments(Method method, Random lots) {

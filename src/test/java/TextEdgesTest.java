@@ -667,6 +667,14 @@ public final class TextEdgesTest {
 
     private static void faultChangesNothing() {
         Check.sentence("A text with a FAULT changes nothing but the tape");
+        String[] faults = {"x", "brown 11;", "house a 1 1 = 1;house a 2 2 two;", "house b 3 3 as z;",
+            "house z 0 0 = 9 - lead;" + houses(6), LAW + "(((((((", "fine 1;seed 7;".repeat(67)};
+        for (String fault : faults) {
+            changesNothing(fault);
+        }
+    }
+
+    private static void changesNothing(String fault) {
         WhichBin x = Check.with("house a 6 0 own;house b 7 2 most;house c 8 3 = browns - 1;house d 5 6 wise;seed 44;"
                 + "leaflet 9;brown 4;fine 8;both 2;");
         x.leaflet(1, true);
@@ -675,19 +683,15 @@ public final class TextEdgesTest {
         x.swap(0, 2);
         x.habit(3, 5);
         x.tell(0, true, 2, 1, false, true);
-        String[] faults = {"x", "brown 11;", "house a 1 1 = 1;house a 2 2 two;", "house b 3 3 as z;",
-            "house z 0 0 = 9 - lead;" + houses(6), LAW + "(((((((", "fine 1;seed 7;".repeat(67)};
         long before = all(x);
-        for (String fault : faults) {
-            Check.due("a fault", Check.read(x, fault) > 0, true);
-            Check.due("all things after " + fault, all(x), before);
-        }
+        Check.due("a fault", Check.read(x, fault) > 0, true);
+        Check.due("all things after " + fault, all(x), before);
         Check.due("what a SLOT holds", x.restore(0), true);
         Check.due("the night", x.count(1), 3);
         Check.due("PLACE", x.house(0, 0), 0);
         Check.due("LEAFLETS", x.count(3), 2);
         x.swap(0, 2);
-        Check.due("read", Check.read(x, "seed"), 1);
+        Check.due("read", Check.read(x, fault) > 0, true);
         Check.due("undo()", x.undo(), true);
         Check.due("PLACE", x.house(0, 0), 0);
     }

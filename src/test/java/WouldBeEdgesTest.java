@@ -255,8 +255,11 @@ public final class WouldBeEdgesTest {
 
     private static void tellsBehindTheLast() {
         Check.sentence("promise 18: (PLACES behind the last HOUSE are not looked at)");
-        WhichBin x = Check.with(owns(9));
+        WhichBin x = null;
         for (int row = 0; row <= 728; row++) {
+            if (row % 200 == 0) {
+                x = Check.with(owns(9));
+            }
             switch (row % 3) {
                 case 0:
                     tells(x, row, 1, 10);
