@@ -5,7 +5,7 @@ import java.util.Random;
  * that of the plain Model.
  */
 public final class SweepModelTest {
-    private static final int STREETS = Integer.getInteger("streets", 120);
+    private static final int STREETS = Integer.getInteger("streets", 200);
     private static final int MOST_SETS = 64;
     private final Random lots;
     private final WhichBin x = new WhichBin();
